@@ -48,6 +48,10 @@ public final class DykesTest {
         w.set(3, 10);
         // 18750 at 0; 6250 and 110 at 11; 9010 at 901.
         Due.is("one of three is kept out no more", w.best(), 11);
+        WallMarks v = Due.withLevels(200, 100);
+        v.set(3, 81);
+        Due.is("the lower costs more", v.best(), 201);
+        Due.is("the last level", Due.withLevels(998).best(), 999);
         Due.is("of none", new WallMarks().best(), 0);
         WallMarks y = Due.withLevels(999, 1);
         Due.is("999 cannot be kept out", y.best(), 2);
@@ -69,6 +73,11 @@ public final class DykesTest {
         y.set(4, 4);
         // 100 at 0 (RARE is 1/2), 100 at 100.
         Due.is("of like ones the least", y.best(), 0);
+        WallMarks z = Due.withLevels(19, 9, 9);
+        z.set(4, 1);
+        z.set(5, 40);
+        // 30 at 0; 10 and 10 at 10; 20 at 20.
+        Due.is("of like ones the least, known later", z.best(), 10);
     }
 
     private static void sure() {
@@ -88,6 +97,10 @@ public final class DykesTest {
         y.set(2, 1);
         Due.is("999 stays over", y.sure(33), -1);
         Due.is("999 stays over", y.sure(34), 6);
+        WallMarks w = Due.withLevels(0);
+        w.set(2, 0);
+        Due.is("level 0 is over 0", w.sure(50), 0);
+        Due.is("level 0 is over 0", w.sure(49), 1);
         WallMarks z = Due.withLevels(998);
         z.set(2, 0);
         Due.is("the last level", z.sure(0), 999);

@@ -82,6 +82,9 @@ public final class RareTest {
         Due.is("so rare of none", new WallMarks().soRare(0), -1);
         Due.is("so rare level 0", Due.withLevels(0).soRare(50), 0);
         Due.is("so rare level 0", Due.withLevels(0).soRare(51), -1);
+        WallMarks y = Due.withLevels(new int[50]);
+        Due.is("50 of 51", y.soRare(98), 0);
+        Due.is("50 of 51", y.soRare(99), -1);
     }
 
     private static void rank() {
@@ -90,6 +93,9 @@ public final class RareTest {
         for (int year = 0; year < due.length; year++) {
             Due.is("rank " + year, x.rank(year), due[year]);
         }
+        WallMarks y = Due.withLevels(5, 6, 6, 4);
+        Due.is("rank by one level", y.rank(0), 3);
+        Due.is("rank of two alike", y.rank(2), 1);
         Due.is("rank -1", x.rank(-1), -2);
         Due.is("rank 60", x.rank(60), -2);
         x.set(2, 10);

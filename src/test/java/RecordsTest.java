@@ -30,6 +30,14 @@ public final class RecordsTest {
         Due.is("how many to 6", x.records(0), 2);
         Due.is("the last to 6", x.records(1), 5);
         Due.is("the most years to 6", x.records(2), 1);
+        WallMarks y = new WallMarks();
+        y.tell(2, 0, 0, 0);
+        y.tell(9, 0, 0, 0);
+        Due.is("a like one is none", y.records(0), 1);
+        Due.is("a like one is none", y.records(1), 2);
+        Due.is("a like one is none", y.records(2), 0);
+        y.tell(12, 0, 1, 0);
+        Due.is("from level 0 on", y.records(2), 10);
         Due.is("records -1", x.records(-1), -2);
         Due.is("records 4", x.records(4), -2);
     }
@@ -68,6 +76,7 @@ public final class RecordsTest {
         Due.is("10 of 10, one in 3628800", x.records(3), 0);
         x.set(2, 8);
         Due.is("9 of 9, one in 362880", x.records(3), 2);
+        Due.is("two of 12: eleven twelfths", Due.withLevels(3, 4, 2, 1, 1, 1, 1, 1, 1, 1, 1, 1).records(3), 916666);
     }
 
     private static void rises() {
@@ -131,6 +140,9 @@ public final class RecordsTest {
         WallMarks x = Due.withLevels(10, 10, 40);
         Due.is("changed", x.changed(0), 2);
         Due.is("one of three choices", x.changed(1), 333333);
+        WallMarks w = Due.withLevels(40, 10, 10);
+        Due.is("falls", w.changed(0), 1);
+        Due.is("one of three choices is as far", w.changed(1), 333333);
         WallMarks y = Due.withLevels(0, 0, 10, 10);
         Due.is("changed", y.changed(0), 2);
         Due.is("two of six choices", y.changed(1), 333333);

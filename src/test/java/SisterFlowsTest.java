@@ -89,6 +89,11 @@ public final class SisterFlowsTest {
             Due.is("no sister", x.filled(2, what), -3);
             Due.is("sister's are 0", x.filled(3, what), -3);
         }
+        x.sister(1, 7);
+        for (int what = 0; what <= 2; what++) {
+            Due.is("exact, others common", x.filled(1, what), -3);
+            Due.is("no sister, others common", x.filled(2, what), -3);
+        }
         x.sister(1, 10);
         Due.is("one is 0", x.filled(3, 0), 20);
         Due.is("one is 0", x.filled(3, 1), 15);
@@ -142,6 +147,10 @@ public final class SisterFlowsTest {
         Due.is("bytes", x.count(7), 0);
         Due.is("fault of an empty one", x.fault(), 0);
         Due.is("type anew", x.type(49), 1);
+        Due.is("what was wiped does not come back", x.fault(), 1);
+        Due.typeAnew(x, "1:1;2:2");
+        Due.typeAnew(x, "1:1");
+        Due.is("what was wiped does not come back", x.fault(), 3);
     }
 
     private static void faultOf(String text, int place) {

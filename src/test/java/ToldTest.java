@@ -55,11 +55,13 @@ public final class ToldTest {
         Due.is("less", x.known(1, 0), 1);
         Due.is("less", x.known(2, 1), 999);
         Due.is("nothing", x.known(3, 0), 2);
+        Due.is("no level", x.known(3, 1), -1);
         Due.is("tellings", x.count(0), 6);
     }
 
     private static void tellRefuses() {
         WallMarks x = new WallMarks();
+        Due.is("time -1", x.tell(5, 0, 5, -1), -2);
         x.tell(5, 0, 5, 10);
         int[][] wrong = {
             {-1, 0, 5, 10}, {60, 0, 5, 10}, {0, -1, 5, 10}, {0, 3, 5, 10}, {0, 0, -1, 10}, {0, 0, 1000, 10},
@@ -107,6 +109,7 @@ public final class ToldTest {
     private static void read() {
         WallMarks x = withRow(2, 0, 999, 5, 1000, 7);
         Due.is("read", x.read(2, 10, 4), 3);
+        Due.is("read 10", x.known(10, 0), 0);
         Due.is("read 10", x.known(10, 1), 0);
         Due.is("read 11", x.known(11, 1), 999);
         Due.is("read 12", x.known(12, 1), 5);
@@ -129,6 +132,7 @@ public final class ToldTest {
 
     private static void readRefuses() {
         WallMarks x = withRow(2, 7);
+        Due.is("time -1", x.read(2, 5, -1), -2);
         x.tell(0, 0, 5, 10);
         int[][] wrong = {{-1, 0, 10}, {4, 0, 10}, {2, -1, 10}, {2, 60, 10}, {2, 0, 9}, {2, 0, 1000}, {1, 60, 10}};
         for (int[] w : wrong) {
