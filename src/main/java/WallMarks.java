@@ -240,9 +240,9 @@ public final class WallMarks {
             return counted.exacts > MOST_SHOULD ? FULL : should();
         }
         if (what == 0) {
-            return counted.recordCount();
+            return counted.records;
         }
-        return what == 1 ? counted.lastRecord() : counted.longestWait();
+        return what == 1 ? counted.lastRecord : counted.longestWait;
     }
 
     public int rises() {
@@ -472,7 +472,7 @@ public final class WallMarks {
             case 4:
                 return counted.opens;
             case 5:
-                return counted.greatestExact();
+                return counted.greatestExact;
             case 6:
                 return sisterYears();
             case 7:
@@ -681,10 +681,9 @@ public final class WallMarks {
         orderByRecords(n);
         long asMany = 0;
         long all = 0;
-        int had = counted.recordCount();
         for (int records = 0; records <= n && records < orders.length; records++) {
             all += orders[records];
-            if (records >= had) {
+            if (records >= counted.records) {
                 asMany += orders[records];
             }
         }
@@ -910,12 +909,20 @@ public final class WallMarks {
         int belows = 0;
         int opens = 0;
         int exactSum = 0;
+        int greatestExact = NONE;
+        int records = 0;
+        int lastRecord = NONE;
+        int longestWait = 0;
 
         void gather(Known knowledge, int from, int to) {
             exacts = 0;
             belows = 0;
             opens = 0;
             exactSum = 0;
+            greatestExact = NONE;
+            records = 0;
+            lastRecord = NONE;
+            longestWait = 0;
             for (int year = 0; year < YEARS; year++) {
                 if (from <= year && year <= to) {
                     add(year, knowledge.kinds[year], knowledge.levels[year]);
@@ -929,11 +936,22 @@ public final class WallMarks {
                 exactLevels[exacts] = level;
                 exactSum += level;
                 exacts++;
+                holdAgainstRecord(year, level);
             } else if (kind == BELOW && belows < YEARS) {
                 belowLevels[belows] = level;
                 belows++;
             } else {
                 opens++;
+            }
+        }
+
+        /** YEARS are added in their order, so a RECORD is one that is greater than all that were added. */
+        private void holdAgainstRecord(int year, int level) {
+            if (level > greatestExact) {
+                longestWait = lastRecord == NONE ? 0 : Math.max(longestWait, year - lastRecord);
+                lastRecord = year;
+                greatestExact = level;
+                records++;
             }
         }
 
@@ -974,14 +992,6 @@ public final class WallMarks {
             return exacts + belowsUnder(level) + 1;
         }
 
-        int greatestExact() {
-            int greatest = NONE;
-            for (int i = 0; i < exacts; i++) {
-                greatest = Math.max(greatest, exactLevels[i]);
-            }
-            return greatest;
-        }
-
         /** OVER and UNDER are the same from one step up to the next, so the least of a kind is 0 or a step. */
         int steps() {
             return exacts + belows;
@@ -992,44 +1002,6 @@ public final class WallMarks {
                 return 0;
             }
             return i < exacts ? exactLevels[i] + 1 : belowLevels[i - exacts];
-        }
-
-        int recordCount() {
-            int records = 0;
-            int greatest = NONE;
-            for (int i = 0; i < exacts; i++) {
-                if (exactLevels[i] > greatest) {
-                    greatest = exactLevels[i];
-                    records++;
-                }
-            }
-            return records;
-        }
-
-        int lastRecord() {
-            int last = NONE;
-            int greatest = NONE;
-            for (int i = 0; i < exacts; i++) {
-                if (exactLevels[i] > greatest) {
-                    greatest = exactLevels[i];
-                    last = exactYears[i];
-                }
-            }
-            return last;
-        }
-
-        int longestWait() {
-            int last = NONE;
-            int longest = 0;
-            int greatest = NONE;
-            for (int i = 0; i < exacts; i++) {
-                if (exactLevels[i] > greatest) {
-                    greatest = exactLevels[i];
-                    longest = last == NONE ? 0 : Math.max(longest, exactYears[i] - last);
-                    last = exactYears[i];
-                }
-            }
-            return longest;
         }
 
         int exactsAhead(int year) {
