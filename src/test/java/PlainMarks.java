@@ -15,6 +15,8 @@ final class PlainMarks {
     private final StringBuilder flows = new StringBuilder();
     private final Object[] sheets = new Object[4];
     private int finding = 0;
+    // What is KNOWN of all YEARS since the last change of what is told or set; null if it has to be looked up anew.
+    private int[][] knownNow = null;
 
     private static boolean in(int x, int least, int greatest) {
         return least <= x && x <= greatest;
@@ -39,6 +41,7 @@ final class PlainMarks {
             return -4;
         }
         tellings.add(new int[] {year, kind, v, time});
+        knownNow = null;
         return tellings.size();
     }
 
@@ -65,6 +68,7 @@ final class PlainMarks {
             return -4;
         }
         watches.add(new int[] {from, to, level});
+        knownNow = null;
         return watches.size() - 1;
     }
 
@@ -75,11 +79,23 @@ final class PlainMarks {
         }
         int before = settings[what];
         settings[what] = v;
+        knownNow = null;
         return before;
     }
 
-    /** Kind and LEVEL. */
     private int[] knownOf(int year) {
+        if (knownNow == null) {
+            int[][] looked = new int[60][];
+            for (int y = 0; y < 60; y++) {
+                looked[y] = lookedUp(y);
+            }
+            knownNow = looked;
+        }
+        return knownNow[year];
+    }
+
+    /** Kind and LEVEL. */
+    private int[] lookedUp(int year) {
         for (int i = tellings.size() - 1; i >= 0; i--) {
             int[] t = tellings.get(i);
             if (t[0] == year && t[3] <= settings[0]) {
@@ -745,5 +761,38 @@ final class PlainMarks {
         int[] counts = {tellings.size(), watches.size(), ofKind(0), ofKind(1), ofKind(2), greatest, sisterYears,
             flows.length(), finding};
         return in(what, 0, 8) ? counts[what] : -2;
+    }
+
+    long digest() {
+        BigInteger h = BigInteger.valueOf(17);
+        for (long item : digested()) {
+            h = h.multiply(BigInteger.valueOf(31)).add(BigInteger.valueOf(item));
+        }
+        return h.longValue();
+    }
+
+    private List<Long> digested() {
+        List<Long> items = new ArrayList<>();
+        for (int what = 0; what <= 7; what++) {
+            items.add((long) count(what));
+        }
+        for (int year = 0; year < 60; year++) {
+            items.add((long) known(year, 0));
+            items.add((long) known(year, 1));
+            items.add((long) filled(year, 0));
+        }
+        for (int level : new int[] {100, 300, 500}) {
+            for (int what = 0; what <= 2; what++) {
+                items.add((long) over(level, what));
+            }
+            items.add(rare(level, 0, 0));
+            items.add(rare(level, 0, 1));
+        }
+        int[] rest = {soRare(10), records(0), records(1), records(2), rises(), changed(0), common(0), common(1), fault(),
+            best(), sure(20)};
+        for (int item : rest) {
+            items.add((long) item);
+        }
+        return items;
     }
 }

@@ -1,9 +1,9 @@
 import java.util.Random;
 
-/** Long runs of calls, the same each time, on WallMarks and on PlainMarks: both answer alike. */
+/** Runs of calls, the same each time, on WallMarks and on PlainMarks: both answer alike. */
 public final class PlainMarksTest {
-    private static final int RUNS = 400;
-    private static final int CALLS = 500;
+    private static final int RUNS = 1800;
+    private static final int CALLS = 512;
 
     private final Random random;
     private final WallMarks x = new WallMarks();
@@ -11,6 +11,7 @@ public final class PlainMarksTest {
     private final int years;
     private final int levels;
     private int time = 0;
+    private int left = CALLS;
 
     private PlainMarksTest(int run) {
         random = new Random(run);
@@ -21,16 +22,30 @@ public final class PlainMarksTest {
 
     public static void main(String[] args) {
         for (int run = 0; run < RUNS; run++) {
-            PlainMarksTest test = new PlainMarksTest(run);
-            if (run % 2 == 0) {
-                Due.is("set", test.x.set(2, test.years - 1), test.y.set(2, test.years - 1));
-            }
-            for (int call = 0; call < CALLS; call++) {
-                test.someCall();
-            }
-            Due.is("digest of run " + run, test.x.digest(), SheetsTest.digestOf(test.x));
+            new PlainMarksTest(run).calls(run % 2 == 0, new int[] {0, 5, 20, 60, 119, 125}[run % 7 % 6]);
         }
         Due.end();
+    }
+
+    private void calls(boolean few, int tellings) {
+        if (few) {
+            same("set", 2, years - 1);
+        }
+        for (int i = 0; i < tellings; i++) {
+            same("tell", year(), random.nextInt(3) == 0 ? some(3) : 0, level(), soon());
+        }
+        while (left > 1) {
+            someCall();
+        }
+        same("digest");
+    }
+
+    /** Behind the last call that an object has, nothing is asked any more. */
+    private void same(String name, int... numbers) {
+        if (left > 0) {
+            left--;
+            Due.is(Calls.text(name, numbers), Calls.on(x, name, numbers), Calls.on(y, name, numbers));
+        }
     }
 
     /** Mostly from 0 to below a bound, now and then just outside. */
@@ -76,29 +91,29 @@ public final class PlainMarksTest {
         switch (random.nextInt(8)) {
             case 0: case 1: case 2:
                 int kind = random.nextInt(2) == 0 ? 0 : some(3);
-                Due.is("tell", x.tell(a, kind, v, t), y.tell(a, kind, v, t));
+                same("tell", a, kind, v, t);
                 break;
             case 3:
-                Due.is("read", x.read(what, a, t), y.read(what, a, t));
+                same("read", what, a, t);
                 break;
             case 4:
                 if (random.nextInt(4) == 0) {
-                    Due.is("watch", x.watch(a, b, v), y.watch(a, b, v));
+                    same("watch", a, b, v);
                 }
                 break;
             case 5:
                 int[] bounds = {Math.max(time, 1), years, years, 100, 10000, 100};
                 if (random.nextInt(3) == 0) {
                     int w = some(what >= 0 && what < 6 ? bounds[what] : 5);
-                    Due.is("set", x.set(what, w), y.set(what, w));
+                    same("set", what, w);
                 } else {
-                    Due.is("set back", x.set(what, what == 0 ? 999 : what == 1 ? 0 : 59), y.set(what, what == 0 ? 999 : what == 1 ? 0 : 59));
+                    same("set", what, what == 0 ? 999 : what == 1 ? 0 : 59);
                 }
                 break;
             default:
-                Due.is("known", x.known(a, 0), y.known(a, 0));
-                Due.is("known level", x.known(a, 1), y.known(a, 1));
-                Due.is("known what", x.known(a, what), y.known(a, what));
+                same("known", a, 0);
+                same("known", a, 1);
+                same("known", a, what);
                 break;
         }
     }
@@ -109,10 +124,10 @@ public final class PlainMarksTest {
         int what = some(3);
         int p = some(101);
         int a = year();
-        Due.is("over", x.over(v, what), y.over(v, what));
-        Due.is("rare", x.rare(v, which, what), y.rare(v, which, what));
-        Due.is("soRare", x.soRare(p), y.soRare(p));
-        Due.is("rank", x.rank(a), y.rank(a));
+        same("over", v, what);
+        same("rare", v, which, what);
+        same("soRare", p);
+        same("rank", a);
     }
 
     private void chanceSome() {
@@ -126,49 +141,49 @@ public final class PlainMarksTest {
         int over = some(m + 1);
         int i = 1 + some(Math.min(years, 15));
         int j = 1 + some(Math.min(years, 15));
-        Due.is("again", x.again(n, a, k, what), y.again(n, a, k, what));
-        Due.is("lasts", x.lasts(a, share), y.lasts(a, share));
-        Due.is("next", x.next(m, s, over, what), y.next(m, s, over, what));
-        Due.is("between", x.between(a, i, j, what), y.between(a, i, j, what));
+        same("again", n, a, k, what);
+        same("lasts", a, share);
+        same("next", m, s, over, what);
+        same("between", a, i, j, what);
     }
 
     private void recordSome() {
         int what = some(4);
         int either = some(2);
         int a = year();
-        Due.is("records", x.records(what), y.records(what));
-        Due.is("rises", x.rises(), y.rises());
-        Due.is("change", x.change(a, either), y.change(a, either));
-        Due.is("changed", x.changed(either), y.changed(either));
+        same("records", what);
+        same("rises");
+        same("change", a, either);
+        same("changed", either);
     }
 
     private void sisterSome() {
         int a = year();
         int v = random.nextInt(4) == 0 ? -1 : level();
         int what = some(3);
-        Due.is("sister", x.sister(a, v), y.sister(a, v));
-        Due.is("common", x.common(what), y.common(what));
+        same("sister", a, v);
+        same("common", what);
         for (int i = 0; i < 4; i++) {
             int b = year();
-            Due.is("filled", x.filled(b, what), y.filled(b, what));
+            same("filled", b, what);
         }
     }
 
     private void flowSome() {
         if (random.nextInt(6) == 0) {
-            Due.is("wipe", x.wipe(), y.wipe());
+            same("wipe");
         }
         String text = random.nextInt(3) == 0 ? wildText() : pairText();
         for (int i = 0; i < text.length(); i++) {
-            Due.is("type", x.type(text.charAt(i)), y.type(text.charAt(i)));
+            same("type", text.charAt(i));
         }
         int v = level();
         int what = some(2);
         int b = some(256);
-        Due.is("fault", x.fault(), y.fault());
-        Due.is("flow", x.flow(v, what), y.flow(v, what));
+        same("fault");
+        same("flow", v, what);
         if (random.nextInt(20) == 0) {
-            Due.is("type", x.type(b), y.type(b));
+            same("type", b);
         }
     }
 
@@ -182,8 +197,7 @@ public final class PlainMarksTest {
 
     private String pairText() {
         StringBuilder text = new StringBuilder();
-        int had = y.wipe();
-        Due.is("wipe", x.wipe(), had);
+        same("wipe");
         int level = random.nextInt(300);
         int amount = random.nextInt(300);
         int pairs = 1 + random.nextInt(7);
@@ -202,10 +216,10 @@ public final class PlainMarksTest {
         int h = level();
         int what = some(2);
         int p = some(101);
-        Due.is("dyke", x.dyke(h, what), y.dyke(h, what));
+        same("dyke", h, what);
         if (random.nextInt(10) == 0) {
-            Due.is("best", x.best(), y.best());
-            Due.is("sure", x.sure(p), y.sure(p));
+            same("best");
+            same("sure", p);
         }
     }
 
@@ -220,29 +234,29 @@ public final class PlainMarksTest {
         switch (random.nextInt(12)) {
             case 0:
                 int size = random.nextInt(5) == 0 ? some(61) : n;
-                Due.is("sheet", x.sheet(s, form, size), y.sheet(s, form, size));
+                same("sheet", s, form, size);
                 break;
             case 1:
                 if (random.nextInt(4) == 0) {
-                    Due.is("lose", x.lose(s), y.lose(s));
+                    same("lose", s);
                 }
                 break;
             case 2: case 3: case 4: case 5:
-                Due.is("lay", x.lay(s, form, i, v), y.lay(s, form, i, v));
+                same("lay", s, form, i, v);
                 break;
             case 6: case 7:
-                Due.is("copy", x.copy(s, i, t, j, n), y.copy(s, i, t, j, n));
+                same("copy", s, i, t, j, n);
                 break;
             case 8:
                 int a = year();
-                Due.is("write", x.write(a, s), y.write(a, s));
+                same("write", a, s);
                 break;
             default:
-                Due.is("get", x.get(s, form, i), y.get(s, form, i));
+                same("get", s, form, i);
                 break;
         }
         for (int what = -1; what <= 9; what++) {
-            Due.is("count " + what, x.count(what), y.count(what));
+            same("count", what);
         }
     }
 }

@@ -6,6 +6,7 @@ public final class RecordsTest {
     public static void main(String[] args) {
         records();
         recordsOfFew();
+        recordsTakenBack();
         should();
         rises();
         change();
@@ -53,6 +54,15 @@ public final class RecordsTest {
         for (int what = 0; what <= 3; what++) {
             Due.is("one exact " + what, x.records(what), one[what]);
         }
+    }
+
+    /** What was a record, and is taken back or counts no more, leaves nothing. */
+    private static void recordsTakenBack() {
+        WallMarks x = Due.withLevels(5, 0, 9, 0, 0, 12);
+        Rows.run(x, "records 0 = 3", "records 1 = 5", "records 2 = 3", "set 1 50 = 0", "records 0 = 0", "records 1 = NONE",
+            "records 2 = 0", "records 3 = 1000000", "count 5 = NONE", "rises = 0", "changed 0 = NONE", "set 1 5 = 50",
+            "records 0 = 1", "records 1 = 5", "records 2 = 0", "set 1 0 = 5", "tell 5 2 0 1 = 7", "records 0 = 2",
+            "records 1 = 2", "records 2 = 2", "tell 0 1 6 1 = 8", "records 0 = 2", "records 1 = 2", "records 2 = 1");
     }
 
     private static void should() {

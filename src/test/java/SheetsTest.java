@@ -18,6 +18,8 @@ public final class SheetsTest {
         count();
         digestOfNew();
         digestSeesAll();
+        digestAtItsHundredths();
+        digestWraps();
         Due.end();
     }
 
@@ -218,7 +220,7 @@ public final class SheetsTest {
     }
 
     /** The digest by the document's words, from the answers of the other calls. */
-    static long digestOf(WallMarks x) {
+    private static long digestOf(WallMarks x) {
         long h = 17;
         for (int what = 0; what <= 7; what++) {
             h = 31 * h + x.count(what);
@@ -251,20 +253,52 @@ public final class SheetsTest {
         Due.is("a finding is not in it", x.digest(), digestOf(new WallMarks()));
     }
 
-    private static void digestSeesAll() {
+    private static WallMarks withMore() {
         WallMarks x = Due.withLevels(120, 340, 560, 80);
-        long before = x.digest();
-        Due.is("digest", before, digestOf(x));
         x.tell(4, 1, 300, 0);
         x.watch(6, 9, 500);
         x.sister(0, 60);
         x.sister(2, 90);
         x.sister(5, 100);
         Due.typeAnew(x, "1:1;2:2");
-        Due.is("digest of more", x.digest(), digestOf(x));
-        Due.yes("is another", x.digest() != before);
-        x.set(1, 1);
-        x.set(2, 20);
-        Due.is("digest of some years", x.digest(), digestOf(x));
+        return x;
+    }
+
+    private static void digestSeesAll() {
+        WallMarks x = Due.withLevels(120, 340, 560, 80);
+        long before = x.digest();
+        Due.is("digest", before, digestOf(x));
+        WallMarks y = withMore();
+        Due.is("digest of more", y.digest(), digestOf(y));
+        Due.yes("is another", y.digest() != before);
+        WallMarks z = withMore();
+        z.set(1, 1);
+        z.set(2, 20);
+        Due.is("digest of some years", z.digest(), digestOf(z));
+    }
+
+    /** RARE of the greatest of 9 is just 10 hundredths, of 10 it is less; so with MOST RARE of 4 YEARS, of 23. */
+    private static void digestAtItsHundredths() {
+        for (int years : new int[] {4, 9, 10, 23}) {
+            WallMarks x = new WallMarks();
+            for (int year = 0; year < years; year++) {
+                x.tell(year, 0, 20 * year + 90, 0);
+            }
+            x.set(2, years - 1);
+            Due.is("digest of " + years, x.digest(), digestOf(x));
+        }
+    }
+
+    /** By numbers without an end, of which the lowest 64 bits are due. */
+    private static void digestWraps() {
+        for (String state : new String[] {"new", "some", "late", "none counts", "full"}) {
+            PlainMarks y = new PlainMarks();
+            States.make(state, y);
+            Due.is("digest, " + state, States.made(state).digest(), y.digest());
+        }
+        WallMarks x = States.made("some");
+        long first = x.digest();
+        Due.is("a digest changes nothing", x.digest(), first);
+        Due.is("a digest makes no FINDING", x.count(8), 4);
     }
 }

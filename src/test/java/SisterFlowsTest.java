@@ -8,6 +8,7 @@ public final class SisterFlowsTest {
         common();
         filled();
         filledWithout();
+        filledByTheLeast();
         filledOfThoseThatCount();
         type();
         wipe();
@@ -108,6 +109,15 @@ public final class SisterFlowsTest {
         x.sister(1, -1);
         Due.is("no common year", x.filled(3, 0), -3);
         Due.is("no common year", x.filled(3, 1), -3);
+    }
+
+    /** A SISTER's LEVEL of 1 is the least that is not left out. */
+    private static void filledByTheLeast() {
+        WallMarks x = Due.withLevels(3, 5, 4, 999);
+        Rows.run(x, "sister 0 0 = NONE", "sister 1 1 = NONE", "sister 2 2 = NONE", "sister 9 7 = NONE", "filled 9 0 = 28",
+            "filled 9 1 = 14", "filled 9 2 = 35", "sister 2 -1 = 2", "filled 9 0 = 56", "filled 9 1 = 35",
+            "sister 1 0 = 1", "filled 9 0 = NOT", "filled 9 1 = NOT", "filled 9 2 = NOT", "common 0 = 2",
+            "sister 3 1 = NONE", "sister 9 999 = 7", "filled 9 1 = 998001", "filled 9 2 = 998001");
     }
 
     private static void filledOfThoseThatCount() {

@@ -11,6 +11,8 @@ public final class ToldTest {
         latestTelling();
         tellIsFull();
         read();
+        readNarrowed();
+        readAndTimes();
         readRefuses();
         readStopsWhenFull();
         watch();
@@ -128,6 +130,26 @@ public final class ToldTest {
         Due.is("last year", w.known(59, 1), 8);
         WallMarks e = withRow(2);
         Due.is("read an empty row", e.read(2, 0, 0), 0);
+    }
+
+    /** What is read is the item that the row holds, not the number that was laid. */
+    private static void readNarrowed() {
+        WallMarks x = new WallMarks();
+        Rows.run(x, "sheet 0 0 3 = 3", "lay 0 0 0 261 = 1", "lay 0 0 1 127 = 1", "lay 0 0 2 128 = 1", "read 0 0 0 = 2",
+            "known 0 1 = 5", "known 1 1 = 127", "known 2 0 = 2", "sheet 1 1 3 = 3", "lay 1 1 0 65543 = 1",
+            "lay 1 1 1 999 = 1", "lay 1 1 2 32768 = 1", "read 1 10 0 = 2", "known 10 1 = 7", "known 11 1 = 999",
+            "known 12 0 = 2", "sheet 2 2 2 = 2", "lay 2 2 1 65543 = 1", "read 2 20 0 = 1", "known 20 1 = 0",
+            "known 21 0 = 2", "lay 2 2 0 MIN = 1", "read 2 20 0 = 0", "lay 2 2 0 MAX = 1", "read 2 20 0 = 0",
+            "lay 2 2 0 1000 = 1", "read 2 20 0 = 0", "lay 2 2 0 -1 = 1", "read 2 20 0 = 0", "count 0 = 5");
+    }
+
+    private static void readAndTimes() {
+        WallMarks x = withRow(2, 5, 6);
+        Rows.run(x, "read 2 0 7 = 2", "tell 3 0 1 6 = BAD", "read 2 0 6 = BAD", "read 2 3 7 = 2", "set 0 6 = 999",
+            "known 0 0 = 2", "set 0 7 = 6", "known 0 1 = 5", "lay 2 2 0 -1 = 1", "read 2 0 500 = 0", "tell 9 0 1 7 = 5",
+            "lay 2 2 0 8 = 1", "read 2 0 999 = 2", "known 0 0 = 0", "known 0 1 = 5", "set 0 999 = 7", "known 0 1 = 8");
+        WallMarks y = withRow(0);
+        Rows.run(y, "read 2 0 999 = 0", "tell 0 0 0 0 = 1");
     }
 
     private static void readRefuses() {
