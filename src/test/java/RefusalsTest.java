@@ -21,6 +21,7 @@ public final class RefusalsTest {
         copy();
         writeAndCount();
         findingStays();
+        findingStaysBehindAnyCall();
         Due.end();
     }
 
@@ -210,5 +211,22 @@ public final class RefusalsTest {
             "count 8 = 3", "sheet 1 0 2 = 2", "copy 0 0 1 0 1 = STORE", "count 8 = 4", "sheet 1 0 61 = BAD", "count 8 = 4",
             "sheet 1 0 -1 = SIZE", "count 8 = 5", "tell 0 0 0 0 = 1", "rank 5 = NOT", "copy 0 0 0 0 2 = 1", "lose 0 = 2",
             "count 8 = 5", "read 0 0 0 = NULL", "count 8 = 1", "sheet 0 2 -7 = SIZE", "write 0 0 = NULL", "count 8 = 1");
+    }
+
+    /** In this state the latest FINDING is 4; each call is answered, on an object of its own, and makes none. */
+    private static void findingStaysBehindAnyCall() {
+        String[] rows = {
+            "tell 0 0 5 10 = 8", "read 0 0 10 = 3", "watch 0 0 5 = 1", "set 0 5 = 999", "known 0 0 = 0", "over 0 0 = 5",
+            "rare 0 0 = 5/6", "soRare 0 = 400", "rank 0 = 3", "again 1 8 1 = 1/2", "lasts 8 128 = 1", "next 1 1 0 = 5/6",
+            "between 8 1 2 = 5/32", "records 0 = 2", "records 3 = 800000", "rises = 0", "change 1 = -5/1", "changed 0 = 4",
+            "changed 1 = 600000", "sister 0 5 = 150", "common 0 = 3", "filled 7 0 = 342", "type 48 = 14", "wipe = 13",
+            "fault = NONE", "flow 0 = 0/1", "dyke 999 = 999/1", "best = 401", "sure 100 = 0", "sheet 3 0 5 = 5", "lose 0 = 4",
+            "lay 0 1 0 5 = 1", "get 0 1 0 = 7", "copy 0 0 1 0 4 = 1", "write 0 0 = 4", "count 0 = 7"};
+        for (String row : rows) {
+            Rows.run(States.made("some"), row, "count 8 = 4");
+        }
+        WallMarks x = States.made("some");
+        x.digest();
+        Rows.run(x, "count 8 = 4");
     }
 }
