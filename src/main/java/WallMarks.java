@@ -4,6 +4,9 @@ import java.util.Arrays;
 public final class WallMarks {
     public static final int NONE = -1, BAD = -2, NOT = -3, FULL = -4;
 
+    private static final int LEAST_INT = -2147483648;
+    private static final long LEAST_LONG = -9223372036854775808L;
+
     private static final int YEARS = 60;
     private static final int TOP_LEVEL = 999;
     private static final int TOP_TIME = 999;
@@ -414,12 +417,12 @@ public final class WallMarks {
 
     public int get(int s, int form, int i) {
         if (!isSheet(s) || !isForm(form)) {
-            return Integer.MIN_VALUE;
+            return LEAST_INT;
         }
         int fit = findingAt(sheets[s], form, i);
         if (fit != 0) {
             found(fit);
-            return Integer.MIN_VALUE;
+            return LEAST_INT;
         }
         return sheets[s].itemAt(i);
     }
@@ -565,7 +568,7 @@ public final class WallMarks {
     // ---- refusals
 
     private static long longRefusal(int refusal) {
-        return Long.MIN_VALUE - refusal;
+        return LEAST_LONG - refusal;
     }
 
     private int found(int number) {
@@ -722,19 +725,19 @@ public final class WallMarks {
         int taken = counted.exactsAhead(year);
         long far = Math.abs(counted.meansAbove(year));
         long all = choices(counted.exacts, taken);
-        return all == 0 ? 0 : (int) (farChoices(0, taken, 0, taken, far) * MILLION / all);
+        return all == 0 ? 0 : (int) (farChoices(counted, 0, taken, 0, taken, far) * MILLION / all);
     }
 
     /** Choices of so many as are left out of the EXACT ones from one on whose MEANS differ as far; at most 14 deep. */
-    private long farChoices(int at, int left, int sum, int taken, long far) {
+    private static long farChoices(Counted among, int at, int left, int sum, int taken, long far) {
         if (left == 0) {
-            return Math.abs(counted.meansApart(taken, sum)) >= far ? 1 : 0;
+            return Math.abs(among.meansApart(taken, sum)) >= far ? 1 : 0;
         }
-        if (at >= MOST_LIKELY || at + left > counted.exacts) {
+        if (at >= MOST_LIKELY || at + left > among.exacts) {
             return 0;
         }
-        return farChoices(at + 1, left - 1, sum + counted.exactLevels[at], taken, far)
-                + farChoices(at + 1, left, sum, taken, far);
+        return farChoices(among, at + 1, left - 1, sum + among.exactLevels[at], taken, far)
+                + farChoices(among, at + 1, left, sum, taken, far);
     }
 
     // ---- sister

@@ -32,7 +32,7 @@ public final class LanguageTest {
         String source = withoutComments(Files.readString(Path.of(path)));
         words(source);
         library(source);
-        lengths(source);
+        methods(source);
         room();
         Due.end();
     }
@@ -112,7 +112,7 @@ public final class LanguageTest {
             Due.yes("import " + imports.group(1), imports.group(1).equals("java.util.Arrays"));
         }
         Set<String> may = Set.of("Arrays.fill", "Arrays.copyOf", "Arrays.copyOfRange", "Math.abs", "Math.min", "Math.max",
-            "System.arraycopy", "Integer.MIN_VALUE", "Long.MIN_VALUE");
+            "System.arraycopy");
         Matcher uses = Pattern.compile("\\b(Arrays|Math|System|Integer|Long)\\.\\w+").matcher(source);
         while (uses.find()) {
             boolean imported = source.startsWith("java.util.", Math.max(0, uses.start() - 10));
@@ -120,18 +120,24 @@ public final class LanguageTest {
         }
     }
 
-    private static void lengths(String source) {
+    /** Methods stay short; one that calls itself by its own name is private and static. */
+    private static void methods(String source) {
+        Matcher header = Pattern.compile("( {4}| {8})(?:[\\w\\[\\]]+ )+(\\w+)\\([^()]*\\) \\{").matcher("");
         String[] lines = source.split("\n");
         int start = -1;
+        int seen = 0;
         for (int i = 0; i < lines.length; i++) {
-            if (lines[i].matches("( {4}| {8})[^ ].*\\) \\{")) {
+            if (start < 0 && header.reset(lines[i]).matches()) {
                 start = i;
-            }
-            if (start >= 0 && lines[i].equals(lines[start].replaceAll("[^ ].*", "") + "}")) {
+                seen++;
+            } else if (start >= 0 && lines[i].equals(header.group(1) + "}")) {
                 Due.yes("sixty lines at most: " + lines[start], i - start < 60);
                 start = -1;
+            } else if (start >= 0 && lines[i].matches(".*(?<![.\\w])" + header.group(2) + "\\(.*")) {
+                Due.yes("calls itself: " + lines[start], lines[start].startsWith("    private static "));
             }
         }
+        Due.yes("all methods are seen, to their ends: " + seen, seen > 100 && start < 0);
     }
 
     /** All calls of a run share one room: an object takes little of it, and calls take nothing. */
